@@ -144,7 +144,7 @@ public final class CrowToll {
             case 2:
                 return has(stand.comes, cart) ? 1 : 0;
             case 3:
-                return has(stand.maybe, cart) ? 1 : 0;
+                return has(told.maybe, cart) ? 1 : 0;
             case 4:
                 return day.paidBy(cart);
             default:
@@ -194,7 +194,7 @@ public final class CrowToll {
     }
 
     public int doubt(int cart) {
-        if (!isCart(cart) || !has(stand.maybe, cart)) {
+        if (!isCart(cart) || !has(told.maybe, cart)) {
             return NONE;
         }
         act(Acts.DOUBT, cart, 0);
@@ -919,8 +919,7 @@ public final class CrowToll {
     private static final class Stand {
         final int[] minute = new int[CARTS_MOST];
         final int[] sacks = new int[CARTS_MOST];
-        /** Both as bits by their numbers. */
-        int maybe;
+        /** As bits by their numbers. */
         int comes;
         final int[] counts = new int[BIRDS_MOST];
         int carts;
@@ -930,21 +929,19 @@ public final class CrowToll {
             for (int i = 0; i < road.carts; i++) {
                 add(road.minute[i], road.sacks[i]);
             }
-            maybe = road.maybe;
-            comes = ~maybe;
+            comes = ~road.maybe;
             System.arraycopy(road.counts, 0, counts, 0, BIRDS_MOST);
         }
 
         void becomes(Stand other) {
             System.arraycopy(other.minute, 0, minute, 0, CARTS_MOST);
             System.arraycopy(other.sacks, 0, sacks, 0, CARTS_MOST);
-            maybe = other.maybe;
             comes = other.comes;
             System.arraycopy(other.counts, 0, counts, 0, BIRDS_MOST);
             carts = other.carts;
         }
 
-        /** One more that comes for sure: only told ones are maybe, so its bits stand as asTold left them. */
+        /** One more that comes for sure: only told ones are maybe, so its bit stands as asTold left it. */
         void add(int itsMinute, int itsSacks) {
             if (carts < CARTS_MOST) {
                 minute[carts] = itsMinute;
@@ -1127,28 +1124,27 @@ public final class CrowToll {
         }
     }
 
-    /** What the law asks, worked out once for each POST, sacks and nth: PARTY asks the same thousands of times. */
+    /** What the law asks, kept for each POST and nth with the sacks last asked for: PARTY asks the same thousands of times. */
     private static final class Prices {
-        private static final int UNKNOWN = -1;
-
         private final Road road;
-        private final int[] known = new int[POSTS_MOST * SACKS_MOST * COUNTS_MOST];
+        private final int[] sacksKnown = new int[POSTS_MOST * COUNTS_MOST];
+        private final int[] known = new int[POSTS_MOST * COUNTS_MOST];
 
         Prices(Road road) {
             this.road = road;
-            Arrays.fill(known, UNKNOWN);
         }
 
         void forget() {
-            Arrays.fill(known, UNKNOWN);
+            Arrays.fill(sacksKnown, 0);
         }
 
         int of(int post, int sacks, int nth) {
-            int i = (post * SACKS_MOST + sacks - 1) * COUNTS_MOST + nth - 1;
+            int i = post * COUNTS_MOST + nth - 1;
             if (i < 0 || i >= known.length) {
                 return 0;
             }
-            if (known[i] == UNKNOWN) {
+            if (sacksKnown[i] != sacks) {
+                sacksKnown[i] = sacks;
                 known[i] = road.law.pay(sacks, road.toll[post], nth);
             }
             return known[i];
