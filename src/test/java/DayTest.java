@@ -1,5 +1,3 @@
-import java.util.Arrays;
-
 /** Promises 1 and 6 to 15: a new object, the day in earnest, acts taken back and done again. */
 public final class DayTest {
     private static final Due DUE = new Due("DayTest");
@@ -225,43 +223,41 @@ public final class DayTest {
     /** Acts of all sorts: when the oldest have gone, each of the others still takes back what it did. */
     private static void manyActs() {
         CrowToll x = Due.on(ROAD);
+        // how many carts, whether f comes, how far a and b count: before each act, and behind the last
         int[][] stood = new int[56][];
+        stood[0] = new int[] {5, 0, 2, 1};
         for (int i = 0; i < 55; i++) {
-            stood[i] = standing(x);
+            int[] now = stood[i].clone();
             if (i % 3 == 0 && i < 50) {
-                x.come(i, i + 1);
+                now[0] = x.come(i, i + 1) + 1;
             } else if (i % 3 == 1) {
-                x.doubt(3);
+                now[1] = 1 - now[1];
+                DUE.is("doubt", x.doubt(3), now[1]);
             } else {
-                x.learn(i % 2, i % 4 < 2 ? 1 + i % 5 % 2 : -1);
+                int bird = i % 2;
+                int by = now[2 + bird] < 9 ? 1 + i % 5 : -7;
+                now[2 + bird] += by;
+                DUE.is("learn", x.learn(bird, by), now[2 + bird]);
             }
+            stood[i + 1] = now;
         }
-        stood[55] = standing(x);
         for (int i = 54; i >= 15; i--) {
             DUE.is("undo of act " + i, x.undo(), true);
-            DUE.is("all as before act " + i, Arrays.equals(standing(x), stood[i]), true);
+            standsAs("before act " + i, x, stood[i]);
         }
         DUE.is("forty undone", x.undo(), false);
         for (int i = 15; i < 55; i++) {
             DUE.is("redo of act " + i, x.redo(), true);
-            DUE.is("all as behind act " + i, Arrays.equals(standing(x), stood[i + 1]), true);
+            standsAs("behind act " + i, x, stood[i + 1]);
         }
         DUE.is("forty redone", x.redo(), false);
     }
 
-    private static int[] standing(CrowToll x) {
-        int[] all = new int[60];
-        all[0] = x.about(2);
-        all[1] = x.cart(3, 2);
-        all[2] = x.income(-1);
-        for (int i = 0; i < 3; i++) {
-            all[3 + i] = x.bird(i, 0);
-        }
-        for (int i = 0; i < 24; i++) {
-            all[6 + 2 * i] = x.cart(i, 0);
-            all[7 + 2 * i] = x.cart(i, 1);
-        }
-        return all;
+    private static void standsAs(String when, CrowToll x, int[] stood) {
+        DUE.is("carts " + when, x.about(2), stood[0]);
+        DUE.is("f " + when, x.cart(3, 2), stood[1]);
+        DUE.is("a " + when, x.bird(0, 0), stood[2]);
+        DUE.is("b " + when, x.bird(1, 0), stood[3]);
     }
 
     /** The farthest post and the highest count. */

@@ -2,12 +2,22 @@
 final class Due {
     private final String test;
     private int wrong = 0;
+    private int asked = 0;
 
     Due(String test) {
         this.test = test;
     }
 
+    int wrong() {
+        return wrong;
+    }
+
+    int asked() {
+        return asked;
+    }
+
     void is(String call, long got, long want) {
+        asked++;
         if (got != want) {
             wrong++;
             System.out.println(test + ": " + call + " answered " + got + ", due is " + want);
@@ -26,6 +36,27 @@ final class Due {
         }
         is(call + ", lies behind the last", x.lies(numbers.length), -1);
         is(call + ", lies(-1)", x.lies(-1), -1);
+    }
+
+    /** A text with a mark: it has a fault there, once the mark is taken out. */
+    void fault(String marked, int which) {
+        int place = marked.indexOf('!');
+        road(marked.substring(0, place) + marked.substring(place + 1), which, place);
+    }
+
+    /** Texts without a fault. */
+    void good(String... texts) {
+        for (String text : texts) {
+            road(text, 0, CrowToll.NONE);
+        }
+    }
+
+    void road(String text, int which, int place) {
+        CrowToll x = new CrowToll();
+        lay(x, text);
+        is("road() of \"" + text + "\"", x.road() == CrowToll.NONE, which != 0);
+        is("fault(0) of \"" + text + "\"", x.fault(0), which);
+        is("fault(1) of \"" + text + "\"", x.fault(1), place);
     }
 
     static void lay(CrowToll x, String text) {

@@ -2,22 +2,13 @@
 public final class RoadTest {
     private static final Due DUE = new Due("RoadTest");
 
-    private static void fault(String text, int which, int place) {
-        CrowToll x = new CrowToll();
-        Due.lay(x, text);
-        DUE.is("road() of \"" + text + "\"", x.road() == CrowToll.NONE, which != 0);
-        DUE.is("fault(0) of \"" + text + "\"", x.fault(0), which);
-        DUE.is("fault(1) of \"" + text + "\"", x.fault(1), place);
-    }
-
     private static void good(String text) {
-        fault(text, 0, -1);
+        DUE.good(text);
     }
 
-    /** A fault at the place of a mark, which is taken out. */
+    /** A fault at the place of a mark. */
     private static void at(String marked, int which) {
-        int place = marked.indexOf('!');
-        fault(marked.substring(0, place) + marked.substring(place + 1), which, place);
+        DUE.fault(marked, which);
     }
 
     private static void feed() {
