@@ -1124,7 +1124,7 @@ public final class CrowToll {
         }
     }
 
-    /** What the law asks, kept for each POST and nth with the sacks last asked for: PARTY asks the same thousands of times. */
+    /** What the law asks, kept for each POST and nth with the sacks last asked for: REST asks the same thousands of times. */
     private static final class Prices {
         private final Road road;
         private final int[] sacksKnown = new int[POSTS_MOST * COUNTS_MOST];
@@ -1214,19 +1214,12 @@ public final class CrowToll {
 
     /** What is best for those who pay: PARTY, HEAPS, REST. */
     private static final class Drivers {
-        /** Far above the ways of three CARTS in 21 MINUTES. */
-        private static final int WAYS_MOST = 1000000;
-
         private final Road road;
         private final Stand stand;
         private final Prices prices;
         private final Watch watch;
         private final int[] order = new int[CARTS_MOST];
         private int going;
-        private int ahead;
-        private final int[] saved = new int[Watch.SAVED];
-        private final int[] behind = new int[HEAPS_MOST];
-        private final int[] load = new int[HEAPS_MOST];
         private final int[] who = new int[CARTS_MOST];
         private final int[] when = new int[CARTS_MOST];
 
@@ -1241,58 +1234,31 @@ public final class CrowToll {
             watch = new Watch(road);
         }
 
+        /**
+         * Who sets out in one MINUTE with the CART just ahead of it PAYS nothing: where that one is COUNTED, it is taken for that one,
+         * and where that one is FREE, so is it. Nor do those behind change what the first one PAYS. So, whenever the first sets out,
+         * no way is better than all together with it, and no like one is ahead of that.
+         */
         int leastOfParty(int n, int sacks, int minute, int w, int late) {
-            Arrays.fill(load, sacks);
-            Arrays.fill(behind, 0);
-            letComeTill(minute);
-            int least = Integer.MAX_VALUE;
-            boolean more = true;
-            for (int way = 0; way < WAYS_MOST && more; way++) {
-                int sum = payTogether(n, minute) + late * minutesBehind(n);
-                if (sum < least) {
+            putInOrder();
+            int least = 0;
+            for (int by = 0; by <= w; by++) {
+                int sum = payOfOneMore(sacks, minute + by) + n * late * by;
+                if (by == 0 || sum < least) {
                     least = sum;
-                    System.arraycopy(behind, 0, chosen, 0, n);
+                    Arrays.fill(chosen, by);
                 }
-                more = nextWay(n, w);
             }
             return least;
         }
 
-        private int minutesBehind(int n) {
-            int sum = 0;
-            for (int i = 0; i < n; i++) {
-                sum += behind[i];
-            }
-            return sum;
-        }
-
-        /** The next way for n CARTS to be behind, none before the one ahead of it, the first counts most; false behind the last one. */
-        private boolean nextWay(int n, int w) {
-            int i = n - 1;
-            while (i >= 0 && behind[i] >= w) {
-                i--;
-            }
-            if (i < 0) {
-                return false;
-            }
-            int next = behind[i] + 1;
-            for (int j = i; j < n; j++) {
-                behind[j] = next;
-            }
-            return true;
-        }
-
+        /** As in a party only the first one PAYS, and it has a sack more if they can't be shared out evenly. */
         int bestHeaps(int sacks, int minute) {
-            Arrays.fill(behind, 0);
-            letComeTill(minute);
-            int best = 1;
-            heapsPay = Integer.MAX_VALUE;
+            putInOrder();
+            int best = 0;
             for (int m = 1; m <= HEAPS_MOST && m <= sacks; m++) {
-                for (int i = 0; i < m; i++) {
-                    load[i] = sacks / m + (i < sacks % m ? 1 : 0);
-                }
-                int sum = payTogether(m, minute);
-                if (sum < heapsPay) {
+                int sum = payOfOneMore((sacks + m - 1) / m, minute);
+                if (best == 0 || sum < heapsPay) {
                     heapsPay = sum;
                     best = m;
                 }
@@ -1300,45 +1266,23 @@ public final class CrowToll {
             return best;
         }
 
-        /** All that set out till a MINUTE come by everywhere, and the BIRDS are saved as they are then: new CARTS come behind these. */
-        private void letComeTill(int minute) {
+        private void putInOrder() {
             going = stand.coming(order);
             putByMinutes(order, going, stand.minute);
             watch.sit(stand.counts);
-            ahead = 0;
-            while (ahead < going && stand.minute[order[ahead]] <= minute) {
-                for (int post = 0; post < road.posts; post++) {
-                    watch.look(post, stand.minute[order[ahead]] + road.at[post]);
-                }
-                ahead++;
-            }
-            watch.save(saved, 0);
         }
 
-        /** What n new CARTS PAY, with their loads, so much behind a MINUTE. */
-        private int payTogether(int n, int minute) {
-            watch.load(saved, 0);
+        /** What a CART more PAYS, behind all that set out till its MINUTE. */
+        private int payOfOneMore(int sacks, int minute) {
+            watch.begin();
             int sum = 0;
             for (int post = 0; post < road.posts; post++) {
-                if (watch.seated[post] > 0) {
-                    sum += payAt(post, n, minute);
+                for (int i = 0; i < going && stand.minute[order[i]] <= minute; i++) {
+                    watch.look(post, stand.minute[order[i]] + road.at[post]);
                 }
-            }
-            return sum;
-        }
-
-        private int payAt(int post, int n, int minute) {
-            int sum = 0;
-            int next = ahead;
-            for (int i = 0; i < n; i++) {
-                int own = minute + behind[i];
-                while (next < going && stand.minute[order[next]] <= own) {
-                    watch.look(post, stand.minute[order[next]] + road.at[post]);
-                    next++;
-                }
-                int bird = watch.look(post, own + road.at[post]);
+                int bird = watch.look(post, minute + road.at[post]);
                 if (bird != NONE) {
-                    sum += prices.of(post, load[i], watch.count[bird]);
+                    sum += prices.of(post, sacks, watch.count[bird]);
                 }
             }
             return sum;
@@ -1375,11 +1319,11 @@ public final class CrowToll {
 
         private int bestLater(int cart) {
             int best = 0;
-            int least = Integer.MAX_VALUE;
+            int least = 0;
             for (int by = 0; by <= REST_LATER_MOST; by++) {
                 when[cart] = stand.minute[cart] + by;
                 int sum = payOf(cart) + by;
-                if (sum < least) {
+                if (by == 0 || sum < least) {
                     least = sum;
                     best = by;
                 }

@@ -411,6 +411,7 @@ final class DayBounds {
             }
             due.is("the most at one post", most.income(3), 24 * 9999);
             due.is("the most at all", most.income(-1), 4 * 24 * 9999);
+            due.is("the most of one cart", most.cart(0, 4), 4 * 9999);
         });
         book.holds("Promise 10", "-2 if there is none such.", due -> {
             for (int post : new int[] {-2, 2, 4, FAR[0], FAR[1]}) {

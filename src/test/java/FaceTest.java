@@ -51,6 +51,9 @@ public final class FaceTest {
         DUE.is("some twelve classes", inside.length + 1 <= 12, true);
         for (Class<?> c : inside) {
             DUE.is(c + " is static", Modifier.isStatic(c.getModifiers()), true);
+            for (Method m : c.getDeclaredMethods()) {
+                DUE.is(c + " has a method with a public name: " + m.getName(), names.contains(m.getName()), false);
+            }
             long fields = Arrays.stream(c.getDeclaredFields()).filter(f -> !Modifier.isStatic(f.getModifiers())).count();
             DUE.is(c + " has some twenty fields, not " + fields, fields <= 20, true);
         }
@@ -73,8 +76,8 @@ public final class FaceTest {
         while (imports.find()) {
             DUE.is("import " + imports.group(1), imports.group(1).equals("java.util.Arrays"), true);
         }
-        Matcher library = Pattern.compile("\\b(System|Arrays|Math|Integer)\\.(\\w+)").matcher(code.replaceAll("import [^;]*;", ""));
-        Set<String> fine = Set.of("System.arraycopy", "Arrays.fill", "Math.min", "Math.max", "Integer.MAX_VALUE");
+        Matcher library = Pattern.compile("\\b(System|Arrays|Math|Integer|Long|String)\\.(\\w+)").matcher(code.replaceAll("import [^;]*;", ""));
+        Set<String> fine = Set.of("System.arraycopy", "Arrays.fill", "Math.min", "Math.max");
         while (library.find()) {
             DUE.is("the library's " + library.group(), fine.contains(library.group()), true);
         }

@@ -10,6 +10,7 @@ public final class ModelTest {
     private final CrowToll toll = new CrowToll();
     private final Model model = new Model();
     private final List<String> calls = new ArrayList<>();
+    private int asked = 0;
 
     /** Those that came in truth, for the sights. */
     private final int hidden;
@@ -19,7 +20,13 @@ public final class ModelTest {
         hidden = random.nextInt(4096);
     }
 
+    /** An object answers 512 calls: a run that begins no more steps behind so many stays below that. */
+    private boolean goesOn() {
+        return asked < 300;
+    }
+
     private void same(String call, int got, int due) {
+        asked++;
         calls.add(call + " -> " + got);
         if (got != due) {
             wrong++;
@@ -304,9 +311,9 @@ public final class ModelTest {
     }
 
     private void run() {
-        for (int i = 0; i < 3; i++) {
+        for (int i = 0; i < 3 && goesOn(); i++) {
             lay(road());
-            for (int k = 0; k < 8; k++) {
+            for (int k = 0; k < 8 && goesOn(); k++) {
                 act();
                 ask();
                 see();
@@ -319,7 +326,7 @@ public final class ModelTest {
 
     /** Formulas alone, in one cart's pay: the reader and the law are tried far more often this way. */
     private void lawRun() {
-        for (int i = 0; i < 10; i++) {
+        for (int i = 0; i < 10 && goesOn(); i++) {
             String e = formula(draw(0, 7));
             if (chance(20)) {
                 int at = random.nextInt(e.length());
@@ -335,9 +342,9 @@ public final class ModelTest {
     /** Many acts in a row: more than forty are not kept. */
     private void actRun() {
         lay("bird b counts 3 gap 5;bird d counts 1 gap 9;post p at 3 toll 7 b d;cart a at 1 sacks 2 maybe;cart b at 4 sacks 9;cart c at 5 sacks 1 maybe;law toll * nth + sacks;");
-        for (int i = 0; i < 120; i++) {
+        for (int i = 0; i < 200 && goesOn(); i++) {
             act();
-            if (chance(10)) {
+            if (chance(3)) {
                 for (int k = 0; k < 45; k++) {
                     same("undo()", toll.undo() ? 1 : 0, model.undo() ? 1 : 0);
                 }
@@ -345,13 +352,15 @@ public final class ModelTest {
                     same("redo()", toll.redo() ? 1 : 0, model.redo() ? 1 : 0);
                 }
             }
-            ask();
+            if (chance(10)) {
+                ask();
+            }
         }
     }
 
     /** Few carts close together, birds that soon begin anew, tolls near what waiting costs: drivers change their minds. */
     private void restRun() {
-        for (int i = 0; i < 6; i++) {
+        for (int i = 0; i < 6 && goesOn(); i++) {
             StringBuilder s = new StringBuilder();
             int birds = draw(1, 3);
             for (int k = 0; k < birds; k++) {
@@ -385,7 +394,7 @@ public final class ModelTest {
     }
 
     public static void main(String[] args) {
-        int runs = args.length > 0 ? Integer.parseInt(args[0]) : 250;
+        int runs = args.length > 0 ? Integer.parseInt(args[0]) : 500;
         int from = args.length > 1 ? Integer.parseInt(args[1]) : 0;
         for (int i = from; i < from + runs && wrong == 0; i++) {
             new ModelTest(i).run();

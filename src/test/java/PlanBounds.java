@@ -8,6 +8,10 @@ final class PlanBounds {
 
     private PlanBounds() { }
 
+    /** As many birds and posts as can be: what is paid at each post counts. */
+    private static final String FULL = "bird a counts 1 gap 99;bird b counts 1 gap 99;bird c counts 1 gap 99;bird d counts 1 gap 99;bird e counts 1 gap 99;"
+        + "post p at 0 toll 10 a;post q at 33 toll 20 b;post r at 66 toll 30 c;post s at 99 toll 40 d e;";
+
     static void tell(Book book) {
         party(book);
         heaps(book);
@@ -40,6 +44,7 @@ final class PlanBounds {
             party(due, x, new int[] {1, 7, 0, 0, 0}, 7, 0);
             party(due, x, new int[] {2, 7, 0, 0, 0}, 7, 0, 0);
             party(due, x, new int[] {3, 7, 0, 0, 0}, 7, 0, 0, 0);
+            party(due, Due.on(FULL), new int[] {3, 99, 600, 20, 99}, 100, 0, 0, 0);
             for (int n : new int[] {0, 4, -1, FAR[0], FAR[1]}) {
                 noParty(due, n, 1, 0, 0, 0);
             }
@@ -127,6 +132,7 @@ final class PlanBounds {
             heaps(due, Due.on("bird a counts 9 gap 9;post p at 0 toll 1 a;law (sacks > 4) * 7;"), 9, 3, 0);
             heaps(due, Due.on("bird a counts 9 gap 9;post p at 0 toll 1 a;law 99 - sacks;"), 50, 1, 49);
             heaps(due, new CrowToll(), 99, 1, 0);
+            heaps(due, Due.on(FULL), 99, 1, 100);
         });
     }
 
@@ -142,10 +148,15 @@ final class PlanBounds {
             due.is("nine come", x.rest(), -1);
             due.lie("nine come", x);
             due.is("none come", new CrowToll().rest(), 1);
+            // d pays 25 at each post ahead of c, and behind it at the last one alone; c never pays
+            CrowToll full = Due.on(FULL + "cart d at 5 sacks 50;cart c at 8 sacks 1;law sacks / 2;");
+            due.is("two at four posts", full.rest(), 2);
+            due.lie("two at four posts", full, 4, 0);
         });
         book.holds("Part 3", "may set out up to 9 MINUTES later than told:", due -> {
             CrowToll nine = Due.on(BY_SACKS + "cart c at 20 sacks 1;cart d at 11 sacks 50;");
             due.is("nine later", nine.rest(), 2);
+            due.is("nine later, asked again", nine.rest(), 2);
             due.lie("nine later", nine, 0, 9);
             CrowToll ten = Due.on(BY_SACKS + "cart c at 20 sacks 1;cart d at 10 sacks 50;");
             due.is("ten would be needed", ten.rest(), 1);
@@ -370,6 +381,12 @@ final class PlanBounds {
             CrowToll x = Due.on(BY_SACKS + "cart m at 1 sacks 50 maybe;cart c at 20 sacks 1;cart n at 11 sacks 50 maybe;cart d at 11 sacks 50;");
             due.is("rest()", x.rest(), 2);
             due.lie("rest()", x, 0, 0, 0, 9);
+            x.doubt(2);
+            x.rest();
+            due.lie("when n comes too", x, 0, 0, 9, 9);
+            x.doubt(2);
+            x.rest();
+            due.lie("when it does not come again", x, 0, 0, 0, 9);
             due.is("in earnest d sets out as told", x.cart(3, 0), 11);
             CrowToll none = new CrowToll();
             due.is("of none", none.rest(), 1);
@@ -395,6 +412,12 @@ final class PlanBounds {
             due.is("no act", x.about(3), 0);
             teach(due, x, 4, -1);
             teach(due, new CrowToll(), 0, 0);
+            // d and e count two at s already, so that a third comes in there by either
+            CrowToll full = Due.on(FULL + "cart c at 1 sacks 1;cart d at 2 sacks 1;cart e at 3 sacks 1;");
+            teach(due, full, 0, 140, 0, 0, 0, 0, 0);
+            teach(due, full, 1, 180, 0, 0, 0, 0, 1);
+            teach(due, full, 2, 210, 0, 0, 1, 0, 1);
+            teach(due, full, 3, 240, 0, 0, 2, 0, 1);
         });
     }
 

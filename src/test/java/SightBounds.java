@@ -110,6 +110,14 @@ final class SightBounds {
             came(due, "at both posts: m alone", posts, 0, 1, 1, 2);
             posts.sight(3, 1, 2);
             came(due, "at the second post it can't be", posts, 0, 0, 0, 0);
+            String full = "bird a counts 2 gap 9;bird b counts 2 gap 9;bird c counts 2 gap 9;bird d counts 2 gap 9;bird e counts 2 gap 9;"
+                + "post p at 10 toll 1 a;post q at 0 toll 1 b;post r at 0 toll 1 c;post s at 99 toll 1 e d;cart c at 3 sacks 1;cart m at 4 sacks 1 maybe;";
+            for (int bird = 0; bird < 5; bird++) {
+                CrowToll x = Due.on(full);
+                x.sight(720, bird, bird == 3 ? 0 : 1);
+                // e sits ahead of d and counts both, so that d tells nothing
+                came(due, "as many birds and posts as can be, " + bird, x, 0, bird == 3 ? 2 : 1, 0, bird == 3 ? 0 : 2);
+            }
             came(due, "more than can be", seen(720, 0, 20), 0, 0, 0, 0);
             // n begins anew: the count is not how many were counted in all
             came(due, "behind a silence", seen(720, 0, 1), 0, 3, 0, 0);
@@ -314,6 +322,13 @@ final class SightBounds {
             due.is("f is not counted", x.counter(3, 0), -1);
             due.is("the income is that of the day", x.income(-1), 7);
             due.is("gone on from", x.come(9, 9), 5);
+            CrowToll y = Due.on("bird a counts 1 gap 9;post p at 0 toll 1 a;cart c at 0 sacks 1;cart d at 1 sacks 1;");
+            y.image(0);
+            y.learn(0, 1);
+            due.is("d is counted", y.counter(1, 0), 0);
+            y.back(0);
+            due.is("d is not counted, as when it was kept", y.counter(1, 0), -1);
+            due.is("nor does it pay", y.income(-1), 1);
             due.is("an act", x.about(3), 1);
             due.is("the box has what was kept", x.back(0), 5);
             due.is("the other box too", x.back(2), 6);
