@@ -141,6 +141,11 @@ final class DayBounds {
                 }
                 due.is("its count", x.bird(0, 2), counts);
             }
+            CrowToll last = Due.on("bird a counts 20 gap 99;post p at 0 toll 1;post q at 0 toll 1;post r at 0 toll 1;post s at 99 toll 1 a;law nth;");
+            for (int i = 0; i < 22; i++) {
+                last.come(i, 1);
+                due.is("at the fourth post, cart " + i + " pays", last.pays(i, 3), i < 20 ? i + 1 : 0);
+            }
             CrowToll two = Due.on("bird a counts 1 gap 9;bird b counts 1 gap 9;post p at 0 toll 1 a b;cart c at 0 sacks 1;");
             due.is("b did not look", two.bird(1, 2), 0);
         });

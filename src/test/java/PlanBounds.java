@@ -418,6 +418,11 @@ final class PlanBounds {
             teach(due, full, 1, 180, 0, 0, 0, 0, 1);
             teach(due, full, 2, 210, 0, 0, 1, 0, 1);
             teach(due, full, 3, 240, 0, 0, 2, 0, 1);
+            CrowToll first = Due.on("bird a counts 1 gap 99;bird b counts 1 gap 99;bird c counts 1 gap 99;bird d counts 1 gap 99;bird e counts 1 gap 99;"
+                + "post p at 0 toll 50 a;post q at 0 toll 1 b c d e;cart c at 1 sacks 1;cart d at 2 sacks 1;cart e at 3 sacks 1;cart f at 4 sacks 1;");
+            teach(due, first, 1, 104, 1, 0, 0, 0, 0);
+            teach(due, first, 2, 154, 2, 0, 0, 0, 0);
+            teach(due, first, 3, 204, 3, 0, 0, 0, 0);
         });
     }
 

@@ -283,6 +283,8 @@ final class RoadBounds {
         book.holds("Terms", "2 one that can't stand there", due -> {
             due.fault("law 1 < 2 !< 3;", 2);
             due.fault("law 1 = 2 !> 3;", 2);
+            due.fault("law 1 + 2 !3;", 2);
+            due.fault("law 1 * nth !nth;", 2);
             due.fault("law 1 < !not 2;", 2);
             due.fault("law 1 + !not 2;", 2);
             due.fault("law !- 1;", 2);
@@ -499,6 +501,12 @@ final class RoadBounds {
             due.is("a road with another law", x.road(), 1);
             due.is("by that law", x.pays(0, 0), 16);
             due.is("its units", x.about(8), 2);
+            Due.lay(x, "bird a counts 3 gap 9;post p at 0 toll 8 a;cart c at 1 sacks 5;law not 0;");
+            x.road();
+            due.is("by a third law", x.pays(0, 0), 1);
+            Due.lay(x, "bird a counts 3 gap 9;post p at 0 toll 8 a;cart c at 1 sacks 5;law 5;");
+            x.road();
+            due.is("nothing of a longer law is left", x.pays(0, 0), 5);
             Due.lay(x, "bird a counts 3 gap 9;post p at 0 toll 9;post q at 0 toll 8 a;cart c at 1 sacks 5;");
             due.is("a road without one", x.road(), 1);
             due.is("nobody sits at the first post", x.pays(0, 0), 0);
